@@ -156,6 +156,7 @@ public final class ActsTest {
         Check.due("undo() the drink", x.undo(), 1);
         Check.due("content", x.glass(0, 1), 4);
         Check.due("thirst", x.drinker(0, 0), 7);
+        Check.due("the hour is still passed", x.glass(0, 3) * 10 + x.count(5), 11);
         Check.due("undo() the hour", x.undo(), 0);
         Check.due("age", x.glass(0, 3), 0);
         Check.due("THE HOUR", x.count(5), 0);

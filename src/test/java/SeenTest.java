@@ -20,6 +20,8 @@ public final class SeenTest {
         Check.due("see(0, 4, 5)", x.see(0, 4, 5), OUTSIDE);
         Check.due("see(0, 4, -1)", x.see(0, 4, -1), OUTSIDE);
         Check.due("count(7)", x.count(7), 0);
+        Check.due("see(1, 0, 0)", x.see(1, 0, 0), 1);
+        Check.due("unsee()", x.unsee(), 1);
         for (int i = 1; i <= 6; i++) {
             Check.due("see " + i, x.see(i % 2, 9, 9), i);
         }

@@ -9,6 +9,7 @@ public final class TextTest {
         faultsInSeats();
         faultsAtTheEnd();
         making();
+        readingIsNotMaking();
         makingAnew();
         Check.end();
     }
@@ -154,8 +155,22 @@ public final class TextTest {
         Check.due("a refused inn leaves drinkers", x.count(2), 4);
     }
 
+    private static void readingIsNotMaking() {
+        GlassTax x = Check.inn("GV310D10");
+        x.wipe();
+        Check.write(x, "GV990V990D91D90S00S11");
+        Check.due("fault() of another", x.fault(), GlassTax.NONE);
+        Check.due("glasses stay", x.count(1), 1);
+        Check.due("thirst stays", x.count(4), 1);
+        Check.due("taxes stay", x.count(3), 1);
+        Check.due("inn() of a lesser one", Check.innAnew(x, "GV310D10"), 11);
+        Check.due("thirst", x.count(4), 1);
+        Check.due("taxes", x.count(3), 1);
+        Check.due("taxes behind an evening", x.evening(0), 1);
+    }
+
     private static void makingAnew() {
-        GlassTax x = Check.inn("GV550V930D41S00");
+        GlassTax x = Check.inn("GV550V990D41S00");
         x.see(0, 4, 1);
         x.seed(99);
         x.hour();
@@ -175,6 +190,7 @@ public final class TextTest {
         Check.due("drinkers are gone", x.drinker(0, 0), GlassTax.UNKNOWN);
         Check.due("second glass is gone", x.glass(1, 0), GlassTax.UNKNOWN);
         Check.due("thirst is gone", x.count(4), 0);
+        Check.due("tax of what is gone", x.count(3), 1);
         Check.due("seen stays", x.count(7), 1);
         Check.due("the seed stays", x.seed(0), 99);
         Check.due("the old seats are gone", Check.innAnew(x, "GV310D10"), 11);
