@@ -18,6 +18,13 @@ final class Check {
         due(what, holds ? 1 : 0, 1);
     }
 
+    static void dueRow(String name, int[] got, int... want) {
+        due(name + ", how many", got.length, want.length);
+        for (int i = 0; i < got.length && i < want.length; i++) {
+            due(name + ", " + i, got[i], want[i]);
+        }
+    }
+
     static GlassTax withText(String text) {
         GlassTax x = new GlassTax();
         write(x, text);
@@ -41,6 +48,12 @@ final class Check {
         x.wipe();
         write(x, text);
         return x.inn();
+    }
+
+    static void hours(GlassTax x, int n) {
+        for (int i = 0; i < n; i++) {
+            x.hour();
+        }
     }
 
     /** Both sides of a fraction. */
