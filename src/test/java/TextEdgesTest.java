@@ -28,6 +28,7 @@ public final class TextEdgesTest {
         innOfAFault();
         innOfTheLeastAndTheMost();
         madeAnew();
+        madeLess();
         Check.end();
     }
 
@@ -328,5 +329,37 @@ public final class TextEdgesTest {
         Check.due("in it", x.glass(0, 1), 4);
         Check.due("thirst", x.drinker(0, 0), 4);
         Check.due("THE SEED", x.seed(0), -5);
+    }
+
+    /** An inn of fewer glasses and drinkers: nothing of the greater one is left in any sum. */
+    private static void madeLess() {
+        String great = "GV993V992V991V990V990D90D91D92D93S00S11S22S33S34";
+        for (String less : new String[] {"G", "GV110", "GD10", "GV110D10", "GV100V110V100D00D10S11"}) {
+            GlassTax x = Check.inn(great);
+            x.hour();
+            x.keep(0);
+            Check.due("inn() of " + less + " is not refused", Check.innAnew(x, less) >= 0);
+            sameAsNew(x, Check.inn(less), less);
+        }
+    }
+
+    private static void sameAsNew(GlassTax x, GlassTax fresh, String text) {
+        for (int what = 0; what <= 7; what++) {
+            Check.due("count(" + what + ") of " + text, x.count(what), fresh.count(what));
+        }
+        for (int i = 0; i < 5; i++) {
+            Check.due("glass(" + i + ", 5) of " + text, x.glass(i, 5), fresh.glass(i, 5));
+            Check.due("drinker(" + i + ", 2) of " + text, x.drinker(i, 2), fresh.drinker(i, 2));
+            Check.due("left(" + i + ") of " + text, x.left(i), fresh.left(i));
+        }
+        Check.due("evening(0) of " + text, x.evening(0), fresh.evening(0));
+        Check.due("evening(1) of " + text, x.evening(1), fresh.evening(1));
+        Check.due("pouring(1, true) of " + text, x.pouring(1, true), fresh.pouring(1, true));
+        Check.due("wake() of " + text, x.wake(), fresh.wake());
+        Check.due("order(true) of " + text, x.order(true), fresh.order(true));
+        Check.due("hall(3) of " + text, x.hall(3), fresh.hall(3));
+        Check.due("leak(1, 5, false) of " + text, x.leak(1, 5, false), fresh.leak(1, 5, false));
+        Check.due("nights(30) of " + text, x.nights(30), fresh.nights(30));
+        Check.due("hour() of " + text, x.hour(), fresh.hour());
     }
 }
