@@ -23,7 +23,8 @@ public final class ModelTest {
     }
 
     private static int writeInn(int run, int most) {
-        String text = dice.nextInt(8) == 0 ? spoilt(randomInn()) : randomInn();
+        String whole = dice.nextInt(4) == 0 ? mixedInn() : randomInn();
+        String text = dice.nextInt(8) == 0 ? spoilt(whole) : whole;
         if (text.length() + 3 > most) {
             return oneCall(run);
         }
@@ -51,6 +52,35 @@ public final class ModelTest {
             for (int g = 0; g < glasses; g++) {
                 if (dice.nextInt(5) < 3 && text.length() <= 57) {
                     text.append('S').append(d).append(g);
+                }
+            }
+        }
+        return text.toString();
+    }
+
+    /** Parts in any order, with no glass or nobody now and then: a seat ahead of a later glass, drinkers ahead of all. */
+    private static String mixedInn() {
+        StringBuilder text = new StringBuilder("G");
+        boolean[][] taken = new boolean[4][5];
+        int mostGlasses = dice.nextInt(6);
+        int mostDrinkers = dice.nextInt(5);
+        int glasses = 0;
+        int drinkers = 0;
+        for (int tries = 0; tries < 60 && text.length() <= 56; tries++) {
+            int part = dice.nextInt(4);
+            if (part == 0 && glasses < mostGlasses) {
+                int measure = 1 + dice.nextInt(9);
+                text.append('V').append(measure).append(dice.nextInt(measure + 1)).append(dice.nextInt(4));
+                glasses++;
+            } else if (part == 1 && drinkers < mostDrinkers) {
+                text.append('D').append(dice.nextInt(10)).append(dice.nextInt(4));
+                drinkers++;
+            } else if (part > 1 && glasses > 0 && drinkers > 0) {
+                int d = dice.nextInt(drinkers);
+                int g = dice.nextInt(glasses);
+                if (!taken[d][g]) {
+                    text.append('S').append(d).append(g);
+                    taken[d][g] = true;
                 }
             }
         }
